@@ -35,7 +35,7 @@ public final class UnpatternedRows {
     private final Search search = new Search();
     private final Division division = new Division();
     private final Reader reader = new Reader();
-    private final Question question = new Question();
+    private final Question question = new Question(reader);
     private final Growth growth = new Growth();
     private final Tree[] trees = new Tree[PLACES];
     private final Tree draft = new Tree();
@@ -288,7 +288,7 @@ public final class UnpatternedRows {
     public int ask(int place, int length, int n) throws IllegalArgumentException {
         checkText(isPlace(place) && length >= 0 && length <= LONGEST, n);
         reader.open(n);
-        if (!question.read(reader)) {
+        if (!question.read()) {
             return FAULTY_QUESTION - reader.faultKind;
         }
         return question.answer(trees[place], length, walk, division);
@@ -574,6 +574,17 @@ public final class UnpatternedRows {
             }
         }
 
+        /** The greatest number goes from its place to one further behind. */
+        void slideGreatest(int from, int to) {
+            if (from < 0 || to >= length) {
+                return;
+            }
+            for (int at = from; at < to; at++) {
+                numbers[at] = numbers[at + 1];
+            }
+            numbers[to] = length;
+        }
+
         void invert(Row from) {
             length = from.length;
             for (int at = 0; at < length; at++) {
@@ -702,7 +713,9 @@ public final class UnpatternedRows {
             count = 0;
             int greatest = 0;
             for (int at = 0; at < row.length; at++) {
-                greatest = Math.max(greatest, row.numbers[at]);
+                if (row.numbers[at] > greatest) {
+                    greatest = row.numbers[at];
+                }
                 if (greatest == at + 1) {
                     close(at + 1);
                 }
@@ -711,9 +724,11 @@ public final class UnpatternedRows {
 
         private void cutFalling(Row row) {
             count = 0;
-            int least = LONGEST;
+            int least = LONGEST + 1;
             for (int at = 0; at < row.length; at++) {
-                least = Math.min(least, row.numbers[at]);
+                if (row.numbers[at] < least) {
+                    least = row.numbers[at];
+                }
                 if (least == row.length - at) {
                     close(at + 1);
                 }
@@ -732,12 +747,17 @@ public final class UnpatternedRows {
 
         private static int endOfGreatest(Row row, int from) {
             int end = from + 1;
+            int bound = from == 0 ? row.length - 1 : row.length;
             int least = row.numbers[from];
             int greatest = least;
-            for (int at = from + 1; at < row.length; at++) {
-                least = Math.min(least, row.numbers[at]);
-                greatest = Math.max(greatest, row.numbers[at]);
-                if (greatest - least == at - from && at - from + 1 < row.length) {
+            for (int at = from + 1; at < bound; at++) {
+                int number = row.numbers[at];
+                if (number < least) {
+                    least = number;
+                } else if (number > greatest) {
+                    greatest = number;
+                }
+                if (greatest - least == at - from) {
                     end = at + 1;
                 }
             }
@@ -773,8 +793,12 @@ public final class UnpatternedRows {
             int least = row.numbers[from];
             int greatest = least;
             for (int at = from + 1; at < row.length; at++) {
-                least = Math.min(least, row.numbers[at]);
-                greatest = Math.max(greatest, row.numbers[at]);
+                int number = row.numbers[at];
+                if (number < least) {
+                    least = number;
+                } else if (number > greatest) {
+                    greatest = number;
+                }
                 if (greatest - least == at - from) {
                     intervals++;
                 }
@@ -1113,6 +1137,8 @@ public final class UnpatternedRows {
         private final int[] indices = new int[LONGEST + 1];
         /** At each depth, the sites whose children are still to be seen. */
         private final int[] waiting = new int[LONGEST + 1];
+        /** At each depth, where its row has the greatest number; NONE if it isn't of this parent. */
+        private final int[] greatestAt = new int[LONGEST + 1];
         /** At each depth, the indices of what stays if one place is taken out. */
         private final int[][] shorter = new int[LONGEST + 1][LONGEST];
         private Tree tree;
@@ -1135,6 +1161,7 @@ public final class UnpatternedRows {
             fresh = true;
             depth = 0;
             waiting[0] = goal > 0 ? through.sitesOf[0] : 0;
+            greatestAt[1] = NONE;
         }
 
         Row row() {
@@ -1159,8 +1186,9 @@ public final class UnpatternedRows {
                 if (sites == 0) {
                     depth--;
                 } else {
-                    waiting[depth] = sites & (sites - 1);
-                    descend(Integer.bitCount((sites & -sites) - 1));
+                    int lowest = sites & -sites;
+                    waiting[depth] = sites - lowest;
+                    descend(Integer.bitCount(lowest - 1));
                     if (depth == goal) {
                         return true;
                     }
@@ -1171,13 +1199,19 @@ public final class UnpatternedRows {
 
         private void descend(int site) {
             int length = depth + 1;
-            rows[length].raise(rows[depth], site);
+            if (greatestAt[length] == NONE) {
+                rows[length].raise(rows[depth], site);
+            } else {
+                rows[length].slideGreatest(greatestAt[length], site);
+            }
+            greatestAt[length] = site;
             indices[length] = indices[depth] * length + site;
             if (tracing) {
                 trace(length, site);
             }
             if (length < goal && tree != null) {
                 waiting[length] = tree.sitesOf[STARTS[length] + indices[length]];
+                greatestAt[length + 1] = NONE;
             }
             depth = length;
         }
@@ -1524,27 +1558,44 @@ public final class UnpatternedRows {
         private int count;
         private final int[] stack = new int[MOST_BYTES];
         private final int[] values = new int[VALUES];
-        private int used;
+        private final int[] wanted = new int[VALUES];
+        private int wantedCount;
         private Word head;
-        private Reader reader;
+        private final Reader reader;
 
-        boolean read(Reader from) {
-            reader = from;
+        Question(Reader reader) {
+            this.reader = reader;
+        }
+
+        boolean read() {
             count = 0;
-            used = 0;
-            head = from.word();
+            wantedCount = 0;
+            head = reader.word();
             if (head != Word.MANY && head != Word.TOTAL && head != Word.MOST && head != Word.LEAST) {
-                return from.refuse(FAULT_STANDS);
+                return reader.refuse(FAULT_STANDS);
             }
-            from.advance();
+            reader.advance();
             boolean stands = head == Word.MANY ? readTest(0) : readSum(0);
-            return stands && (from.kind == Reader.END || from.refuse(FAULT_STANDS));
+            return stands && (reader.kind == Reader.END || reader.refuse(FAULT_STANDS));
         }
 
         private void act(int act) {
             if (count < acts.length) {
                 acts[count] = act;
                 count++;
+            }
+        }
+
+        /** So that each value is found once, however often it is used. */
+        private void want(int value) {
+            for (int at = 0; at < wantedCount; at++) {
+                if (wanted[at] == value) {
+                    return;
+                }
+            }
+            if (wantedCount < VALUES) {
+                wanted[wantedCount] = value;
+                wantedCount++;
             }
         }
 
@@ -1650,7 +1701,7 @@ public final class UnpatternedRows {
                 if (word == null || word.value < 0 || word.value >= VALUES) {
                     return reader.refuse(FAULT_STANDS);
                 }
-                used |= 1 << word.value;
+                want(word.value);
                 act(FIRST_VALUE + word.value);
             }
             reader.advance();
@@ -1690,12 +1741,9 @@ public final class UnpatternedRows {
             return answer;
         }
 
-        /** Finds the values that the question uses, each once. */
         private void look(Row row, int sites, Division division) {
-            for (int value = 0; value < VALUES; value++) {
-                if ((used & 1 << value) != 0) {
-                    values[value] = valueOf(value, row, sites, division);
-                }
+            for (int at = 0; at < wantedCount; at++) {
+                values[wanted[at]] = valueOf(wanted[at], row, sites, division);
             }
         }
 
