@@ -35,7 +35,7 @@ public final class UnpatternedRows {
     private final Search search = new Search();
     private final Division division = new Division();
     private final Reader reader = new Reader();
-    private final Question question = new Question(reader);
+    private final Question question = new Question();
     private final Growth growth = new Growth();
     private final Tree[] trees = new Tree[PLACES];
     private final Tree draft = new Tree();
@@ -288,7 +288,7 @@ public final class UnpatternedRows {
     public int ask(int place, int length, int n) throws IllegalArgumentException {
         checkText(isPlace(place) && length >= 0 && length <= LONGEST, n);
         reader.open(n);
-        if (!question.read()) {
+        if (!question.read(reader)) {
             return FAULTY_QUESTION - reader.faultKind;
         }
         return question.answer(trees[place], length, walk, division);
@@ -1561,13 +1561,8 @@ public final class UnpatternedRows {
         private final int[] wanted = new int[VALUES];
         private int wantedCount;
         private Word head;
-        private final Reader reader;
 
-        Question(Reader reader) {
-            this.reader = reader;
-        }
-
-        boolean read() {
+        boolean read(Reader reader) {
             count = 0;
             wantedCount = 0;
             head = reader.word();
@@ -1575,7 +1570,7 @@ public final class UnpatternedRows {
                 return reader.refuse(FAULT_STANDS);
             }
             reader.advance();
-            boolean stands = head == Word.MANY ? readTest(0) : readSum(0);
+            boolean stands = head == Word.MANY ? readTest(reader, 0) : readSum(reader, 0);
             return stands && (reader.kind == Reader.END || reader.refuse(FAULT_STANDS));
         }
 
@@ -1599,13 +1594,13 @@ public final class UnpatternedRows {
             }
         }
 
-        private boolean readTest(int open) {
-            if (!readBoth(open)) {
+        private boolean readTest(Reader reader, int open) {
+            if (!readBoth(reader, open)) {
                 return false;
             }
             for (int more = 0; more < MOST_BYTES && reader.isWord(Word.OR); more++) {
                 reader.advance();
-                if (!readBoth(open)) {
+                if (!readBoth(reader, open)) {
                     return false;
                 }
                 act(OR);
@@ -1613,13 +1608,13 @@ public final class UnpatternedRows {
             return true;
         }
 
-        private boolean readBoth(int open) {
-            if (!readFact(open)) {
+        private boolean readBoth(Reader reader, int open) {
+            if (!readFact(reader, open)) {
                 return false;
             }
             for (int more = 0; more < MOST_BYTES && reader.isWord(Word.AND); more++) {
                 reader.advance();
-                if (!readFact(open)) {
+                if (!readFact(reader, open)) {
                     return false;
                 }
                 act(AND);
@@ -1627,22 +1622,22 @@ public final class UnpatternedRows {
             return true;
         }
 
-        private boolean readFact(int open) {
+        private boolean readFact(Reader reader, int open) {
             if (reader.isWord(Word.NOT)) {
-                if (!opens(open) || !readFact(open + 1)) {
+                if (!opens(reader, open) || !readFact(reader, open + 1)) {
                     return false;
                 }
                 act(NOT);
                 return true;
             }
             if (reader.kind == '{') {
-                return opens(open) && readTest(open + 1) && closes('}');
+                return opens(reader, open) && readTest(reader, open + 1) && closes(reader, '}');
             }
-            return readComparison(open);
+            return readComparison(reader, open);
         }
 
-        private boolean readComparison(int open) {
-            if (!readSum(open)) {
+        private boolean readComparison(Reader reader, int open) {
+            if (!readSum(reader, open)) {
                 return false;
             }
             int sign = reader.kind;
@@ -1650,21 +1645,21 @@ public final class UnpatternedRows {
                 return reader.refuse(FAULT_STANDS);
             }
             reader.advance();
-            if (!readSum(open)) {
+            if (!readSum(reader, open)) {
                 return false;
             }
             act(sign == '<' ? LESS : sign == '=' ? SAME : MORE);
             return true;
         }
 
-        private boolean readSum(int open) {
-            if (!readProduct(open)) {
+        private boolean readSum(Reader reader, int open) {
+            if (!readProduct(reader, open)) {
                 return false;
             }
             for (int more = 0; more < MOST_BYTES && (reader.kind == '+' || reader.kind == '-'); more++) {
                 int act = reader.kind == '+' ? PLUS : MINUS;
                 reader.advance();
-                if (!readProduct(open)) {
+                if (!readProduct(reader, open)) {
                     return false;
                 }
                 act(act);
@@ -1672,13 +1667,13 @@ public final class UnpatternedRows {
             return true;
         }
 
-        private boolean readProduct(int open) {
-            if (!readFactor(open)) {
+        private boolean readProduct(Reader reader, int open) {
+            if (!readFactor(reader, open)) {
                 return false;
             }
             for (int more = 0; more < MOST_BYTES && reader.kind == '*'; more++) {
                 reader.advance();
-                if (!readFactor(open)) {
+                if (!readFactor(reader, open)) {
                     return false;
                 }
                 act(TIMES);
@@ -1686,9 +1681,9 @@ public final class UnpatternedRows {
             return true;
         }
 
-        private boolean readFactor(int open) {
+        private boolean readFactor(Reader reader, int open) {
             if (reader.kind == '(') {
-                return opens(open) && readSum(open + 1) && closes(')');
+                return opens(reader, open) && readSum(reader, open + 1) && closes(reader, ')');
             }
             if (reader.kind == Reader.NUMBER) {
                 int number = reader.numberUpTo(GREATEST_NUMBER);
@@ -1708,7 +1703,7 @@ public final class UnpatternedRows {
             return true;
         }
 
-        private boolean opens(int open) {
+        private static boolean opens(Reader reader, int open) {
             if (open >= MOST_OPEN) {
                 return reader.refuse(FAULT_MANY);
             }
@@ -1716,7 +1711,7 @@ public final class UnpatternedRows {
             return true;
         }
 
-        private boolean closes(int sign) {
+        private static boolean closes(Reader reader, int sign) {
             if (reader.kind != sign) {
                 return reader.refuse(FAULT_STANDS);
             }
@@ -1747,6 +1742,7 @@ public final class UnpatternedRows {
             }
         }
 
+        /** The value with a word's number, see Word. */
         private static int valueOf(int value, Row row, int sites, Division division) {
             switch (value) {
                 case 0:
@@ -1781,12 +1777,12 @@ public final class UnpatternedRows {
             int top = 0;
             for (int at = 0; at < count; at++) {
                 int act = acts[at];
-                if (act >= 0) {
+                if (act >= 0 && top < stack.length) {
                     stack[top] = act < FIRST_VALUE ? act : values[act - FIRST_VALUE];
                     top++;
-                } else if (act == NOT) {
+                } else if (act == NOT && top > 0) {
                     stack[top - 1] = 1 - stack[top - 1];
-                } else {
+                } else if (top > 1) {
                     top--;
                     stack[top - 1] = join(act, stack[top - 1], stack[top]);
                 }

@@ -179,6 +179,8 @@ public final class PromisesTest {
         refused("12;21", 1, 2);
         refused("12\t", 1, 2);
         refused("12,many", 1, 3);
+        refused("12:", 1, 2);
+        refused("12/", 1, 2);
         refused("0", 2, 0);
         refused("12,102", 2, 3);
         refused("012", 2, 0);
@@ -506,6 +508,9 @@ public final class PromisesTest {
         due("rule(2, 0, 0)", x.rule(2, 0, 0), 0);
         due("rule(2, 1, 0)", x.rule(2, 1, 0), 1);
         due("rule(3, 7, 8)", x.rule(3, 7, 8), 7);
+        tell(x, 2, "652341,1234,315426,132");
+        due("labelled(2, 7, 0)", x.labelled(2, 7, 0), 1);
+        due("rule(2, 0, 0): one of length 7 isn't looked at", x.rule(2, 0, 0), -1);
         thrown("rule(4, 1, 1)", () -> x.rule(4, 1, 1), NO_SUCH);
         thrown("rule(-1, 1, 1)", () -> x.rule(-1, 1, 1), NO_SUCH);
     }
@@ -617,6 +622,15 @@ public final class PromisesTest {
         due("degree of n", x.degree(0), 1);
         tell(x, 0, "12,21");
         due("degree of 1, 0, 0 ..", x.degree(0), -1);
+        tell(x, 0, "231,54123,132,3421,4231");
+        due("degree of 1, 2, 4, 8, 15 ..", x.degree(0), 3);
+        tell(x, 0, "132,4321");
+        due("degree of 1, 2, 5, 13, 30 ..", x.degree(0), 4);
+        tell(x, 0, "123,4231");
+        due("degree of 1, 2, 5, 13, 32 ..", x.degree(0), 5);
+        due("many(0, 8)", x.many(0, 8), 281);
+        tell(x, 0, "");
+        due("degree of all", x.degree(0), -1);
         thrown("degree(4)", () -> x.degree(4), NO_SUCH);
         thrown("degree(-1)", () -> x.degree(-1), NO_SUCH);
     }
@@ -727,9 +741,10 @@ public final class PromisesTest {
             "many {1}", "many {1=1", "many {1=1)", "many 1=1}", "total", "total 1=1", "total {1}", "total not 1", "total (1", "total 1)",
             "total ()", "total 1+", "total 1+*2", "total -1", "total first last", "total 1 or 2", "many 1=1 and", "many 1=1 and or 1=1",
             "many not", "many and", "total many", "total lengths", "total Length", "total 1,2", "total 1 #", "many 1 and 1=1", "many 1=1 not 1=1",
-            "total 1\t", "many (1)=1}", "many {not 1=1}}"};
+            "total 1\t", "many (1)=1}", "many {not 1=1}}", "total 1:", "total 1/", "total first`", "total first{", "total firsta",
+            "total firstz", "total first1"};
         int[] places = {0, 3, 0, 0, 0, 0, 4, 6, 7, 9, 8, 7, 7, 9, 9, 8, 5, 7, 6, 6, 8, 7, 7, 8, 8, 6, 12, 8, 12, 13, 8, 5, 6, 6, 6, 7, 8, 7, 9,
-            7, 10, 14};
+            7, 10, 14, 7, 7, 11, 11, 6, 6, 11};
         for (int at = 0; at < stands.length; at++) {
             faulty(stands[at], 1, places[at]);
         }
