@@ -907,7 +907,9 @@ public final class UnpatternedRows {
             if (size >= told.length || (at > 0 && told[at - 1] == permutation)) {
                 return;
             }
-            System.arraycopy(told, at, told, at + 1, size - at);
+            for (int behind = size; behind > at; behind--) {
+                told[behind] = told[behind - 1];
+            }
             told[at] = permutation;
             size++;
         }
@@ -1000,7 +1002,9 @@ public final class UnpatternedRows {
             if (n < 0 || n >= LONGEST) {
                 return;
             }
-            Arrays.fill(sitesOf, STARTS[n], STARTS[n] + FACTORIALS[n], 0);
+            for (int at = STARTS[n]; at < STARTS[n + 1]; at++) {
+                sitesOf[at] = 0;
+            }
             Arrays.fill(labels[n], 0);
             counts[n + 1] = 0;
             walk.begin(this, n, true);
@@ -1261,7 +1265,9 @@ public final class UnpatternedRows {
                 return;
             }
             known |= 1 << n;
-            Arrays.fill(bits, WORD_STARTS[n], WORD_STARTS[n + 1], 0);
+            for (int at = WORD_STARTS[n]; at < WORD_STARTS[n + 1]; at++) {
+                bits[at] = 0;
+            }
             if (n == 0) {
                 set(0, 0);
                 return;
