@@ -1,16 +1,5 @@
-import java.util.NoSuchElementException;
-
 /** For each promise of the document: ordinary calls, the edges that it names, and wrong ones. */
-public final class PromisesTest {
-    private static final String ILLEGAL = "IllegalArgumentException";
-    private static final String NO_SUCH = "NoSuchElementException";
-    private static int wrong;
-    private static int promise;
-
-    interface Call {
-        long on();
-    }
-
+public final class PromisesTest extends Checks {
     public static void main(String[] args) {
         newObject();
         feed();
@@ -40,77 +29,11 @@ public final class PromisesTest {
         askHeads();
         askTests();
         askFaults();
-        System.out.println(wrong == 0 ? "all answers are as due" : wrong + " answers are not as due");
-        if (wrong != 0) {
-            System.exit(1);
-        }
-    }
-
-    private static void due(String call, long got, long want) {
-        if (got != want) {
-            wrong++;
-            System.out.println("promise " + promise + ": " + call + " answered " + got + ", due is " + want);
-        }
-    }
-
-    private static void thrown(String call, Call on, String want) {
-        String got;
-        try {
-            got = "the answer " + on.on();
-        } catch (IllegalArgumentException e) {
-            got = ILLEGAL;
-        } catch (NoSuchElementException e) {
-            got = NO_SUCH;
-        }
-        if (!got.equals(want)) {
-            wrong++;
-            System.out.println("promise " + promise + ": " + call + " gave " + got + ", due is " + want);
-        }
-    }
-
-    /** Feeds a text and says how long it is. */
-    private static int text(UnpatternedRows x, String text) {
-        for (int from = 0; from < text.length(); from += 20) {
-            int[] five = new int[5];
-            for (int at = 0; at < 20; at++) {
-                int sign = from + at < text.length() ? text.charAt(from + at) : ' ';
-                five[at / 4] = five[at / 4] << 8 | sign;
-            }
-            x.feed(five[0], five[1], five[2], five[3], five[4]);
-        }
-        return text.length();
-    }
-
-    private static int tell(UnpatternedRows x, int place, String rows) {
-        return x.tell(place, text(x, rows));
-    }
-
-    private static int under(UnpatternedRows x, int place, String rows) {
-        return x.under(place, text(x, rows));
-    }
-
-    private static int inflate(UnpatternedRows x, String inflated) {
-        return x.inflate(text(x, inflated));
-    }
-
-    private static int ask(UnpatternedRows x, int place, int length, String question) {
-        return x.ask(place, length, text(x, question));
-    }
-
-    private static String times(String what, int count) {
-        return what.repeat(count);
-    }
-
-    private static UnpatternedRows with(String... bases) {
-        UnpatternedRows x = new UnpatternedRows();
-        for (int place = 0; place < bases.length; place++) {
-            tell(x, place, bases[place]);
-        }
-        return x;
+        end();
     }
 
     private static void newObject() {
-        promise = 1;
+        tested = "promise 1";
         UnpatternedRows x = new UnpatternedRows();
         for (int place = 0; place < 4; place++) {
             due("basis(" + place + ", NONE)", x.basis(place, UnpatternedRows.NONE), 0);
@@ -122,7 +45,7 @@ public final class PromisesTest {
     }
 
     private static void feed() {
-        promise = 2;
+        tested = "promise 2";
         UnpatternedRows x = new UnpatternedRows();
         for (int time = 1; time <= 10; time++) {
             due("feed, time " + time, x.feed(0x20202020, 0x20202020, 0x20202020, 0x20202020, 0x20202020), 20 * time);
@@ -138,7 +61,7 @@ public final class PromisesTest {
     }
 
     private static void tell() {
-        promise = 3;
+        tested = "promise 3";
         UnpatternedRows x = new UnpatternedRows();
         due("tell(0, '')", x.tell(0, 0), 0);
         due("tell(1, '2143, 123, 1432, 123, 12345')", tell(x, 1, "2143, 123, 1432, 123, 12345"), 3);
@@ -196,7 +119,7 @@ public final class PromisesTest {
     }
 
     private static void under() {
-        promise = 4;
+        tested = "promise 4";
         UnpatternedRows x = new UnpatternedRows();
         due("under(0, '132')", under(x, 0, "132"), 5);
         due("basis(0, 0)", x.basis(0, 0), 123);
@@ -231,7 +154,7 @@ public final class PromisesTest {
     }
 
     private static void inflate() {
-        promise = 5;
+        tested = "promise 5";
         UnpatternedRows x = new UnpatternedRows();
         due("2413[12,1,21,1]", inflate(x, "2413[12,1,21,1]"), 346215);
         due("1[1]", inflate(x, "1[1]"), 1);
@@ -256,7 +179,7 @@ public final class PromisesTest {
     }
 
     private static void fault() {
-        promise = 6;
+        tested = "promise 6";
         UnpatternedRows x = new UnpatternedRows();
         due("fault() of a new object", x.fault(), -1);
         due("tell", tell(x, 0, "  12 x"), -11);
@@ -280,7 +203,7 @@ public final class PromisesTest {
     }
 
     private static void make() {
-        promise = 7;
+        tested = "promise 7";
         UnpatternedRows x = with("1342, 2314", "4312, 231", "21");
         due("make(3, 0, 0, 99)", x.make(3, 0, 0, 99), 2);
         due("basis(3, 1)", x.basis(3, 1), 2314);
@@ -313,7 +236,7 @@ public final class PromisesTest {
     }
 
     private static void undo() {
-        promise = 8;
+        tested = "promise 8";
         UnpatternedRows x = new UnpatternedRows();
         due("undo()", x.undo(), -1);
         tell(x, 0, "123");
@@ -346,7 +269,7 @@ public final class PromisesTest {
     }
 
     private static void basis() {
-        promise = 9;
+        tested = "promise 9";
         UnpatternedRows x = with("321,21345");
         due("basis(0, NONE)", x.basis(0, -1), 2);
         due("basis(0, 0)", x.basis(0, 0), 321);
@@ -359,7 +282,7 @@ public final class PromisesTest {
     }
 
     private static void many() {
-        promise = 10;
+        tested = "promise 10";
         UnpatternedRows x = with("132", "1342", "1324", "1");
         int[][] counts = {{1, 1, 2, 5, 14, 42, 132, 429, 1430}, {1, 1, 2, 6, 23, 103, 512, 2740, 15485},
             {1, 1, 2, 6, 23, 103, 513, 2762, 15793}, {1, 0, 0, 0, 0, 0, 0, 0, 0}};
@@ -377,7 +300,7 @@ public final class PromisesTest {
     }
 
     private static void avoider() {
-        promise = 11;
+        tested = "promise 11";
         UnpatternedRows x = with("132", "1", "");
         int[] three = {123, 213, 231, 312, 321};
         for (int i = 0; i < 5; i++) {
@@ -397,7 +320,7 @@ public final class PromisesTest {
     }
 
     private static void rank() {
-        promise = 12;
+        tested = "promise 12";
         UnpatternedRows x = with("321", "1", "");
         for (int i = 0; i < 1430; i++) {
             due("rank(0, avoider(0, 8, " + i + "))", x.rank(0, x.avoider(0, 8, i)), i);
@@ -416,7 +339,7 @@ public final class PromisesTest {
     }
 
     private static void occurrences() {
-        promise = 13;
+        tested = "promise 13";
         UnpatternedRows x = new UnpatternedRows();
         due("12 in 1324", x.occurrences(12, 1324), 5);
         due("1 in 87654321", x.occurrences(1, 87654321), 8);
@@ -433,7 +356,7 @@ public final class PromisesTest {
     }
 
     private static void occurrence() {
-        promise = 14;
+        tested = "promise 14";
         UnpatternedRows x = new UnpatternedRows();
         int[] firstOf231 = {1, 2, 4};
         int[] firstOf132 = {1, 2, 5};
@@ -452,7 +375,7 @@ public final class PromisesTest {
     }
 
     private static void sites() {
-        promise = 15;
+        tested = "promise 15";
         UnpatternedRows x = with("123", "231,4321", "1", "12");
         due("sites(0, 0)", x.sites(0, 0), 1);
         due("sites(0, 21)", x.sites(0, 21), 7);
@@ -471,7 +394,7 @@ public final class PromisesTest {
     }
 
     private static void labelled() {
-        promise = 16;
+        tested = "promise 16";
         UnpatternedRows x = with("123", "1", "12,21");
         int[] four = {0, 0, 5, 5, 3, 1};
         for (int k = 0; k < four.length; k++) {
@@ -491,7 +414,7 @@ public final class PromisesTest {
     }
 
     private static void rule() {
-        promise = 17;
+        tested = "promise 17";
         UnpatternedRows x = with("123", "1234", "12,21");
         for (int k = 2; k <= 7; k++) {
             for (int j = 1; j <= 8; j++) {
@@ -516,7 +439,7 @@ public final class PromisesTest {
     }
 
     private static void of() {
-        promise = 18;
+        tested = "promise 18";
         UnpatternedRows x = new UnpatternedRows();
         int[][] known = {
             {0, 0, 0, 0, 0, 0, 0, 0, 0, 0, 0}, {1, 1, 0, 0, 1, 1, 1, 1, 0, 0, 1}, {21, 2, 1, 0, 2, 21, 21, 12, 1, 1, 1},
@@ -542,7 +465,7 @@ public final class PromisesTest {
     }
 
     private static void part() {
-        promise = 19;
+        tested = "promise 19";
         UnpatternedRows x = new UnpatternedRows();
         int[] parts = {1, 21, 1, 12};
         for (int i = 0; i < 4; i++) {
@@ -559,7 +482,7 @@ public final class PromisesTest {
     }
 
     private static void simples() {
-        promise = 20;
+        tested = "promise 20";
         UnpatternedRows x = with("", "321", "2413,3142", "1");
         int[][] counts = {{0, 0, 0, 0, 2, 6, 46, 338, 2926}, {0, 0, 0, 0, 2, 2, 7, 14, 37}, {0, 0, 0, 0, 0, 0, 0, 0, 0}};
         for (int place = 0; place < 3; place++) {
@@ -590,7 +513,7 @@ public final class PromisesTest {
     }
 
     private static void recurrence() {
-        promise = 21;
+        tested = "promise 21";
         fractions("");
         fractions("1");
         fractions("123");
@@ -612,7 +535,7 @@ public final class PromisesTest {
     }
 
     private static void degree() {
-        promise = 22;
+        tested = "promise 22";
         UnpatternedRows x = with("12", "132,321", "123", "1");
         due("degree(0)", x.degree(0), 0);
         due("degree(1)", x.degree(1), 2);
@@ -636,7 +559,7 @@ public final class PromisesTest {
     }
 
     private static void parts() {
-        promise = 23;
+        tested = "promise 23";
         UnpatternedRows x = with("1342", "1324", "123456", "");
         due("parts(0, 1, false)", x.parts(0, 1, false), 6);
         due("parts(0, 1, true)", x.parts(0, 1, true), 4);
@@ -661,7 +584,7 @@ public final class PromisesTest {
     }
 
     private static void askValues() {
-        promise = 24;
+        tested = "promise 24";
         UnpatternedRows x = with("", "123", "1");
         asked(x, 0, 4, "total length", 96);
         asked(x, 0, 4, "total first", 60);
