@@ -11,12 +11,16 @@ abstract class Sentences extends Checks {
     static final int[] NO_PERMUTATIONS = {Integer.MIN_VALUE, -21, -1, 2, 9, 10, 11, 13, 20, 102, 120, 1224, 1234568, 91234567,
         11234567, 12345670, 123456789, 987654321, 1234567890, Integer.MAX_VALUE};
     private static final Path DOCUMENT = Path.of("../shared/DOC.md");
-    /** What stands ahead of all promises, then each promise. */
-    private static final String[] SECTIONS = read().split("## Promise ");
+    /** What stands ahead of all promises, then each promise; empty if the document isn't beside the project. */
+    private static final String[] SECTIONS = sections();
 
-    private static String read() {
+    private static String[] sections() {
+        if (!Files.exists(DOCUMENT)) {
+            System.out.println("no " + DOCUMENT + ": its words aren't looked for");
+            return new String[0];
+        }
         try {
-            return Files.readString(DOCUMENT, StandardCharsets.UTF_8).replaceAll("\\s+", " ");
+            return Files.readString(DOCUMENT, StandardCharsets.UTF_8).replaceAll("\\s+", " ").split("## Promise ");
         } catch (IOException e) {
             throw new UncheckedIOException(e);
         }
@@ -25,7 +29,7 @@ abstract class Sentences extends Checks {
     /** The words must still be the document's: else what is tested here is no promise any more. */
     static void sentence(int promise, String words, Runnable test) {
         tested = "promise " + promise + ", '" + words + "'";
-        if (!SECTIONS[0].contains(words) && !SECTIONS[promise].contains(words)) {
+        if (SECTIONS.length > promise && !SECTIONS[0].contains(words) && !SECTIONS[promise].contains(words)) {
             fail("the document has no such words");
         }
         try {
