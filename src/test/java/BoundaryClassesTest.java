@@ -214,6 +214,18 @@ public final class BoundaryClassesTest extends Sentences {
             due("undo(): what was refused isn't undone", x.undo(), 0);
             bases(x, 0);
         });
+        sentence(8, "is undone", () -> {
+            UnpatternedRows x = new UnpatternedRows();
+            known(x, 40320, 23, 6, 6, 15, NONE);
+            tell(x, 0, "132");
+            known(x, 1430, 13, 0, 1, 9, 3);
+            tell(x, 0, "12");
+            known(x, 1, 0, 0, 0, NONE, 2);
+            due("undo()", x.undo(), 1);
+            known(x, 1430, 13, 0, 1, 9, 3);
+            due("undo()", x.undo(), 0);
+            known(x, 40320, 23, 6, 6, 15, NONE);
+        });
         sentence(8, "NONE: none can", () -> {
             UnpatternedRows x = new UnpatternedRows();
             due("undo() of a new object", x.undo(), NONE);
@@ -224,6 +236,18 @@ public final class BoundaryClassesTest extends Sentences {
             tell(x, 2, "21");
             due("undo()", x.undo(), 0);
         });
+    }
+
+    /** What is known of the class of PLACE 0 is that of the class that it has now. */
+    private static void known(UnpatternedRows x, int ofLength8, int rank, int simple, int withFourSites, int sites, int parts) {
+        due("many(0, 8)", x.many(0, 8), ofLength8);
+        due("rank(0, 4321)", x.rank(0, 4321), rank);
+        due("avoider(0, 4, " + rank + ")", x.avoider(0, 4, rank), 4321);
+        due("simples(0, 5)", x.simples(0, 5), simple);
+        due("ask(0, 3, 'many sites = 4')", ask(x, 0, 3, "many sites = 4"), withFourSites);
+        due("labelled(0, 3, 4)", x.labelled(0, 3, 4), withFourSites);
+        due("sites(0, 213)", x.sites(0, 213), sites);
+        due("parts(0, 1, false)", x.parts(0, 1, false), parts);
     }
 
     private static void undoAtMost() {

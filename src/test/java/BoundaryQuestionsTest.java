@@ -46,6 +46,8 @@ public final class BoundaryQuestionsTest extends Sentences {
             faulty("Total 1", 1, 0);
             faulty("total Length", 1, 6);
             faulty("total lengtH", 1, 6);
+            faulty("total alength", 1, 6);
+            faulty("total lengthz", 1, 6);
             faulty("total first`", 1, 11);
             faulty("total first{", 1, 11);
             faulty("total first2", 1, 11);
