@@ -90,7 +90,6 @@ public final class UnpatternedRows {
             return FAULTY - reader.faultKind;
         }
         Arrays.fill(marked, 0);
-        marked[0] = 1;
         for (int at = 0; at < reader.count; at++) {
             markBelow(reader.rows[at]);
         }

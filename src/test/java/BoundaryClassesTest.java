@@ -151,6 +151,11 @@ public final class BoundaryClassesTest extends Sentences {
             due("make(2, 4, 0, 0): 24", x.make(2, 4, 0, 0), 24);
             due("make(2, 4, 0, 3): of 25, one stays", x.make(2, 4, 0, 3), 1);
             bases(x, 2, 12);
+            tell(x, 1, "123,132,213,231,4321");
+            due("make(2, 4, 0, 1): of 29, five stay", x.make(2, 4, 0, 1), 5);
+            bases(x, 2, 123, 132, 213, 231, 4321);
+            due("make(3, 4, 1, 0): the other way round", x.make(3, 4, 1, 0), 5);
+            bases(x, 3, 123, 132, 213, 231, 4321);
         });
     }
 

@@ -90,6 +90,11 @@ public final class BoundaryGrowthTest extends Sentences {
             tell(x, 0, "652341,1234,315426,132");
             due("labelled(0, 7, 0)", x.labelled(0, 7, 0), 1);
             due("rule(0, 0, 0): nor this one", x.rule(0, 0, 0), NONE);
+            tell(x, 0, "1234,54132");
+            for (int n = 0; n <= 6; n++) {
+                due("labelled(0, " + n + ", 0)", x.labelled(0, n, 0), n == 6 ? 9 : 0);
+            }
+            due("rule(0, 0, 0): those of LENGTH 6 are", x.rule(0, 0, 0), 0);
         });
         sentence(17, "A RULE for k, j: for all of these AVOIDERS as many.", () -> {
             UnpatternedRows x = with("123", "12,321");

@@ -331,11 +331,29 @@ public final class PromisesTest extends Checks {
         due("rank(1, 0)", x.rank(1, 0), 0);
         due("rank(1, 1)", x.rank(1, 1), -1);
         due("rank(2, 87654321)", x.rank(2, 87654321), 40319);
+        for (int time = 0; time < 18; time++) {
+            ranks(x, 2, time < 9 ? time : 17 - time);
+        }
+        tell(x, 2, "12345");
+        for (int time = 0; time < 18; time++) {
+            ranks(x, 2, time < 9 ? 8 - time : time - 9);
+        }
         thrown("rank(0, 10)", () -> x.rank(0, 10), ILLEGAL);
         thrown("rank(0, -12)", () -> x.rank(0, -12), ILLEGAL);
         thrown("rank(0, 123456789)", () -> x.rank(0, 123456789), ILLEGAL);
         thrown("rank(4, 12)", () -> x.rank(4, 12), NO_SUCH);
         thrown("rank(4, 10)", () -> x.rank(4, 10), NO_SUCH);
+    }
+
+    /** What is known of avoiders of one length is nothing to those of another one. */
+    private static void ranks(UnpatternedRows x, int place, int n) {
+        int many = x.many(place, n);
+        for (int i = 0; i < many; i += Math.max(1, many / 50)) {
+            due("rank(" + place + ", avoider(" + place + ", " + n + ", " + i + "))", x.rank(place, x.avoider(place, n, i)), i);
+        }
+        int last = x.avoider(place, n, many - 1);
+        due("the last one of length " + n, last, n == 0 ? 0 : Integer.parseInt("87654321".substring(8 - n)));
+        due("rank(" + place + ", " + last + ")", x.rank(place, last), many - 1);
     }
 
     private static void occurrences() {
