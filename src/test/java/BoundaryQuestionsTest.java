@@ -48,6 +48,8 @@ public final class BoundaryQuestionsTest extends Sentences {
             faulty("total lengtH", 1, 6);
             faulty("total alength", 1, 6);
             faulty("total lengthz", 1, 6);
+            faulty("total aength", 1, 6);
+            faulty("total lengta", 1, 6);
             faulty("total first`", 1, 11);
             faulty("total first{", 1, 11);
             faulty("total first2", 1, 11);

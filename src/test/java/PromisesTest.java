@@ -452,6 +452,9 @@ public final class PromisesTest extends Checks {
         tell(x, 2, "652341,1234,315426,132");
         due("labelled(2, 7, 0)", x.labelled(2, 7, 0), 1);
         due("rule(2, 0, 0): one of length 7 isn't looked at", x.rule(2, 0, 0), -1);
+        tell(x, 3, "12");
+        due("rule(3, 7, 8): what had seven sites is no avoider any more", x.rule(3, 7, 8), -1);
+        due("rule(3, 1, 1)", x.rule(3, 1, 1), 1);
         thrown("rule(4, 1, 1)", () -> x.rule(4, 1, 1), NO_SUCH);
         thrown("rule(-1, 1, 1)", () -> x.rule(-1, 1, 1), NO_SUCH);
     }
@@ -511,6 +514,9 @@ public final class PromisesTest extends Checks {
         due("simples(3, 4)", x.simples(3, 4), 0);
         tell(x, 3, "");
         due("simples(3, 4) of another class", x.simples(3, 4), 2);
+        under(x, 0, "2413");
+        due("simples(0, 4) below 2413", x.simples(0, 4), 1);
+        due("simples(0, 5) below 2413", x.simples(0, 5), 0);
         thrown("simples(0, 9)", () -> x.simples(0, 9), NO_SUCH);
         thrown("simples(0, -1)", () -> x.simples(0, -1), NO_SUCH);
         thrown("simples(4, 4)", () -> x.simples(4, 4), NO_SUCH);
