@@ -193,6 +193,10 @@ public final class BoundaryGrowthTest extends Sentences {
             fractions("12,4321", 0, 1, 0, 1, 0, 1);
             fractions("12,54321");
             fractions("12,654321");
+            // By two counts up to LENGTH 7, but not at 8: no k has a row.
+            fractions("1342,3142,1324,614253,2143,423561");
+            fractions("2134,25314,412365,1243,246135");
+            fractions("3241,352461,431625,2314,14253,35214");
         });
         sentence(21, "of ai (i 1 to k) the upper number (lower false), the lower one (above 0, in lowest terms)", () -> {
             fractions("24153,24351,13452,34125", 17, 2, -17, 1, 7, 1);
